@@ -9,7 +9,7 @@ import java.util.function.LongSupplier;
  * answer or exception must be the same, and at times all that can be asked.
  */
 public final class ModelTest {
-    private static final int RUNS = 1500;
+    private static final int RUNS = 600;
     private static final int CALLS = 512;
     private static final int[] ODD = {-1, -2, 256, 257, 1000, 1001, Integer.MAX_VALUE, Integer.MIN_VALUE};
     private static final String[] NAMES = {

@@ -95,6 +95,7 @@ public final class ProcedureTest {
             mark(x, slot, 10 + slot);
         }
         x.enter(0, 0);
+        mark(x, 6, 66);
         x.drop(0, 7);
         mark(x, 8, 77);
         mark(x, 3, 88);
@@ -105,7 +106,7 @@ public final class ProcedureTest {
         for (int slot = 1; slot < 10; slot++) {
             Check.same("slot " + slot + " again", x.slot(0, slot, 6), 10 + slot);
         }
-        Check.same("slot 10, what A had", x.slot(0, 10, 6), 20);
+        Check.same("slot 10, loaded in A", x.slot(0, 10, 6), 66);
         Check.same("slot 11, dropped in A", x.slot(0, 11, 0), 0);
         Check.same("slot 12, loaded in A", x.slot(0, 12, 6), 77);
         Check.same("slot 13, what A had", x.slot(0, 13, 6), 23);

@@ -94,7 +94,10 @@ public final class ResourceListTest {
     private static void makingAnew() {
         GrantMachine x = familyOfThree();
         x.steps(1, 50);
-        x.grant(1, 4, 0, 0, 9, 7);
+        x.region(0, 0, 9);
+        for (int entry = 0; entry < 8; entry++) {
+            x.grant(1, entry, 0, 0, 9, 7);
+        }
         x.load(1, 0, 4, 0, 9, 7);
         x.seal(1, 0, 13);
         x.enter(1, 13);
@@ -104,7 +107,9 @@ public final class ResourceListTest {
         Check.same("put by of 1 made anew", x.about(1, 2), 0);
         Check.same("slot 13 of 1 made anew", x.slot(1, 13, 0), 0);
         Check.same("slot 0 of 1 made anew", x.slot(1, 0, 0), 0);
-        entryIs(x, 1, 4, NONE, 0, 0);
+        for (int entry = 0; entry < 8; entry++) {
+            entryIs(x, 1, entry, NONE, 0, 0);
+        }
         Check.yes("1 made anew reaches nothing", !x.reaches(1, 0));
         x.steps(1, 1);
         Check.refuses(x, "back(1)", IllegalStateException.class, () -> x.back(1));
