@@ -258,7 +258,7 @@ public final class GrantMachine {
     public boolean reaches(int process, int word) throws NoSuchElementException, IndexOutOfBoundsException {
         checkMade(process);
         checkWord(word);
-        // A capability, wherever it is kept, reaches only words of its entry in this same list: so the entries tell all.
+        // A capability, wherever it is kept, reaches only words of its entry in this list: so the entries tell all.
         for (int entry = 0; entry < ENTRIES; entry++) {
             if (reachOfEntry(process, entry).has(word)) {
                 return true;

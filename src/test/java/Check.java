@@ -1,5 +1,3 @@
-import java.util.Arrays;
-
 /** Counts and prints what is not as due; a test's main method closes with end(). */
 final class Check {
     private static int wrong = 0;
@@ -16,27 +14,6 @@ final class Check {
     static void yes(String what, boolean got) {
         if (!got) {
             complain(what + " does not hold");
-        }
-    }
-
-    /** The call must throw just that exception, and change nothing that can be seen. */
-    static void refuses(GrantMachine machine, String what, Class<? extends RuntimeException> due, Runnable call) {
-        int[] before = Snapshot.of(machine);
-        Class<?> thrown = thrownBy(call);
-        if (thrown != due) {
-            complain(what + " threw " + thrown + ", due is " + due);
-        }
-        if (!Arrays.equals(before, Snapshot.of(machine))) {
-            complain(what + " was refused but changed something");
-        }
-    }
-
-    static Class<?> thrownBy(Runnable call) {
-        try {
-            call.run();
-            return null;
-        } catch (RuntimeException e) {
-            return e.getClass();
         }
     }
 

@@ -1,250 +1,422 @@
-import java.util.NoSuchElementException;
-
-/** Promises 1 to 4 and 16: a new object, region, make, grant and entry. */
+/** Promises 1 to 4 and 16, and the terms of processes and entries: a new object, region, make, grant and entry. */
 public final class ResourceListTest {
     private static final int NONE = GrantMachine.NONE;
+    private static final int LEAST = Integer.MIN_VALUE;
+    private static final int MOST = Integer.MAX_VALUE;
 
     public static void main(String[] args) {
-        newObject();
+        aNewObject();
         regions();
-        wrongRegions();
+        regionsOfSizeZero();
+        regionsThatDoNotFit();
         making();
         makingAnew();
-        wrongMaking();
+        childrenAreMadeNoMore();
+        othersStayMade();
+        aChildMadeNoMoreIsMadeAgain();
+        wrongProcesses();
+        wrongParents();
+        parentsOfNoLesserNumber();
         grants();
-        chains();
-        emptyEntriesHaveNoRights();
+        grantsNameTheParentsList();
+        grantsToProcessZero();
         wrongGrants();
-        wrongEntries();
+        fromIsCounted();
+        sizeOrAsManyAsThereAre();
+        fromAndSizeTogether();
+        fewerWordsThroughAChain();
+        rightsThatBothHave();
+        emptyEntries();
+        entriesThatNameEmptyOnes();
+        entriesWithoutWordsAreNotEmpty();
+        aChangeIsSeenByAllThatHangOnIt();
+        wrongWhats();
         Check.end();
     }
 
-    private static void newObject() {
-        GrantMachine x = new GrantMachine();
-        Check.same("steps of process 0", x.about(0, 0), 0);
-        Check.same("parent of process 0", x.about(0, 1), NONE);
-        Check.same("put by of process 0", x.about(0, 2), 0);
+    /** "Process 0 alone, all lists empty, no steps." */
+    private static void aNewObject() {
+        Run x = new Run();
+        x.answers(0, "about", 0, 0);
+        x.answers(NONE, "about", 0, 1);
+        x.answers(0, "about", 0, 2);
+        hasEmptyLists(x, 0);
         for (int process = 1; process <= 3; process++) {
-            int absent = process;
-            Check.refuses(x, "about(" + process + ", 0)", NoSuchElementException.class, () -> x.about(absent, 0));
+            x.noSuchElement("about", process, 0);
+        }
+    }
+
+    /** "An entry of process 0 becomes a region"; it reaches "its words, with all rights (7)". */
+    private static void regions() {
+        Run x = new Run();
+        for (int entry = 0; entry < 8; entry++) {
+            x.does("region", entry, 10 * entry, entry + 1);
         }
         for (int entry = 0; entry < 8; entry++) {
-            entryIs(x, 0, entry, NONE, 0, 0);
+            x.entryIs(0, entry, 10 * entry, entry + 1, 7);
+        }
+        x.does("region", 3, 200, 2);
+        x.entryIs(0, 3, 200, 2, 7);
+        x.entryIs(0, 2, 20, 3, 7);
+        x.entryIs(0, 4, 40, 5, 7);
+    }
+
+    /** "(size 0: empty)" */
+    private static void regionsOfSizeZero() {
+        for (int first : new int[] {0, 10, 255, 256}) {
+            Run x = new Run().does("region", 0, 10, 1).does("region", 1, 10, 20);
+            x.does("region", 0, first, 0);
+            x.entryIsEmpty(0, 0);
+            x.entryIs(0, 1, 10, 20, 7);
+            x.does("region", 0, 10, 1);
+            x.entryIs(0, 0, 10, 1, 7);
+        }
+    }
+
+    /** "IllegalArgumentException if first is below 0, size is below 0, or both together are above 256." */
+    private static void regionsThatDoNotFit() {
+        Run x = new Run().does("region", 3, 5, 6);
+        for (int first : new int[] {0, 1, 100, 254, 255}) {
+            Run y = x.branch().does("region", 3, first, 256 - first);
+            y.entryIs(0, 3, first, 256 - first, 7);
+            x.illegalArgument("region", 3, first, 257 - first);
+        }
+        x.branch().does("region", 3, 0, 1).entryIs(0, 3, 0, 1, 7);
+        x.illegalArgument("region", 3, 256, 1);
+        x.illegalArgument("region", 3, 257, 0);
+        for (int below : new int[] {-1, -256, LEAST}) {
+            x.illegalArgument("region", 3, below, 1);
+            x.illegalArgument("region", 3, below, 0);
+            x.illegalArgument("region", 3, 1, below);
+            x.illegalArgument("region", 3, 256, below);
+            x.illegalArgument("region", 3, below, below);
+            x.illegalArgument("region", 3, MOST, below);
+            x.illegalArgument("region", 3, below, MOST);
+        }
+        // Together these wrap around to a number that is not above 256.
+        x.illegalArgument("region", 3, MOST, 1);
+        x.illegalArgument("region", 3, 1, MOST);
+        x.illegalArgument("region", 3, MOST, MOST);
+    }
+
+    /** "A process is made": "each with a PARENT of a lesser number". */
+    private static void making() {
+        for (int process = 1; process <= 3; process++) {
+            for (int parent = 0; parent < process; parent++) {
+                Run x = new Run();
+                if (parent != 0) {
+                    x.does("make", parent, 0);
+                }
+                x.does("make", process, parent);
+                x.answers(0, "about", process, 0);
+                x.answers(parent, "about", process, 1);
+                x.answers(0, "about", process, 2);
+                hasEmptyLists(x, process);
+            }
+        }
+    }
+
+    /** "or made anew: lists, procedures and slots empty, no steps" */
+    private static void makingAnew() {
+        Run x = new Run().does("region", 0, 0, 9).does("make", 1, 0).does("steps", 1, 50);
+        for (int entry = 0; entry < 8; entry++) {
+            x.does("grant", 1, entry, 0, 0, 9, 7);
+        }
+        x.does("seal", 1, 0, 12).does("enter", 1, 12);
+        for (int slot = 0; slot < 14; slot++) {
+            x.does("load", 1, slot, 4, 0, 9, 7);
+        }
+        x.does("write", 1, 0, 5, 77);
+        x.does("make", 1, 0);
+        x.answers(0, "about", 1, 0);
+        x.answers(0, "about", 1, 1);
+        x.answers(0, "about", 1, 2);
+        hasEmptyLists(x, 1);
+        x.answers(false, "reaches", 1, 5);
+        x.answers(77, "look", 5);
+        x.entryIs(0, 0, 0, 9, 7);
+        x.does("steps", 1, 1);
+        x.illegalState("back", 1);
+
+        Run y = family().does("make", 3, 0);
+        y.answers(0, "about", 3, 1);
+        y.does("make", 3, 1);
+        y.answers(1, "about", 3, 1);
+    }
+
+    /** "those whose parent it is are made no more (and so on)" */
+    private static void childrenAreMadeNoMore() {
+        Run x = family().does("make", 1, 0);
+        x.noSuchElement("about", 2, 0);
+        x.noSuchElement("about", 3, 0);
+
+        Run y = family().does("make", 2, 1);
+        y.noSuchElement("about", 3, 0);
+        y.answers(1, "about", 2, 1);
+        y.answers(0, "about", 1, 1);
+
+        Run z = new Run().does("make", 1, 0).does("make", 2, 1).does("make", 3, 1).does("make", 1, 0);
+        z.noSuchElement("about", 2, 0);
+        z.noSuchElement("about", 3, 0);
+    }
+
+    /** Only those whose parent it is: not its parent, nor those of another parent, whatever their numbers. */
+    private static void othersStayMade() {
+        Run x = new Run().does("make", 1, 0).does("make", 2, 0).does("make", 3, 1);
+        x.does("steps", 1, 11).does("steps", 2, 22).does("steps", 3, 33);
+        Run y = x.branch().does("make", 2, 1);
+        y.answers(33, "about", 3, 0);
+        y.answers(1, "about", 3, 1);
+        y.answers(11, "about", 1, 0);
+        Run z = x.branch().does("make", 1, 0);
+        z.answers(22, "about", 2, 0);
+        z.answers(0, "about", 2, 1);
+        z.noSuchElement("about", 3, 0);
+        Run last = family().does("steps", 1, 11).does("steps", 2, 22).does("make", 3, 2);
+        last.answers(11, "about", 1, 0);
+        last.answers(22, "about", 2, 0);
+        last.answers(2, "about", 3, 1);
+    }
+
+    private static void aChildMadeNoMoreIsMadeAgain() {
+        Run x = family().does("region", 0, 0, 9).does("steps", 2, 5).does("grant", 2, 0, 0, 0, 9, 7);
+        x.does("load", 2, 0, 0, 0, 9, 7).does("seal", 2, 0, 6).does("enter", 2, 6).does("make", 1, 0);
+        x.noSuchElement("make", 3, 2);
+        x.does("make", 2, 0);
+        x.answers(0, "about", 2, 0);
+        x.answers(0, "about", 2, 1);
+        x.answers(0, "about", 2, 2);
+        hasEmptyLists(x, 2);
+        x.noSuchElement("about", 3, 0);
+        x.does("make", 3, 2);
+        x.answers(2, "about", 3, 1);
+    }
+
+    /** "NoSuchElementException if there is no such process (1 .. 3)" */
+    private static void wrongProcesses() {
+        Run x = family();
+        for (int process : new int[] {0, -1, 4, LEAST, MOST}) {
+            x.noSuchElement("make", process, 0);
+            x.noSuchElement("make", process, -1);
+            x.noSuchElement("make", process, 3);
+        }
+    }
+
+    /** "or no such parent": one that isn't made is none, whatever its number. */
+    private static void wrongParents() {
+        Run x = new Run().does("make", 2, 0);
+        for (int parent : new int[] {-1, 1, 3, 4, LEAST, MOST}) {
+            x.noSuchElement("make", 2, parent);
+        }
+        Run y = new Run();
+        y.noSuchElement("make", 2, 2);
+        y.noSuchElement("make", 2, 1);
+        y.noSuchElement("make", 3, 3);
+    }
+
+    /** "IllegalArgumentException if the parent's number isn't less." */
+    private static void parentsOfNoLesserNumber() {
+        Run x = family();
+        x.illegalArgument("make", 1, 1);
+        x.illegalArgument("make", 1, 2);
+        x.illegalArgument("make", 1, 3);
+        x.illegalArgument("make", 2, 2);
+        x.illegalArgument("make", 2, 3);
+        x.illegalArgument("make", 3, 3);
+        Run y = new Run().does("make", 3, 0);
+        y.illegalArgument("make", 1, 3);
+        y.illegalArgument("make", 2, 3);
+    }
+
+    /** "An entry of a process (not 0) names one of its parent's list." */
+    private static void grants() {
+        Run x = new Run().does("make", 1, 0);
+        for (int entry = 0; entry < 8; entry++) {
+            x.does("region", entry, 10 * entry, 10);
+            x.does("grant", 1, entry, 7 - entry, 1, 2, 3);
+        }
+        for (int entry = 0; entry < 8; entry++) {
+            x.entryIs(1, entry, 10 * (7 - entry) + 1, 2, 3);
+            x.entryIs(0, entry, 10 * entry, 10, 7);
+        }
+        x.does("grant", 1, 3, 5, 0, 256, 1);
+        x.entryIs(1, 3, 50, 10, 1);
+        x.entryIs(1, 2, 51, 2, 3);
+        x.entryIs(1, 4, 31, 2, 3);
+    }
+
+    private static void grantsNameTheParentsList() {
+        Run x = family().does("region", 0, 0, 10).does("region", 1, 100, 10);
+        x.does("grant", 1, 0, 1, 2, 5, 7).does("grant", 2, 1, 0, 1, 9, 7).does("grant", 3, 0, 1, 1, 9, 7);
+        x.entryIs(2, 1, 103, 4, 7);
+        x.entryIs(3, 0, 104, 3, 7);
+        Run y = x.branch().does("make", 3, 0).does("grant", 3, 0, 1, 1, 9, 7);
+        y.entryIs(3, 0, 101, 9, 7);
+    }
+
+    /** "NoSuchElementException also for process 0" */
+    private static void grantsToProcessZero() {
+        Run x = family().does("region", 0, 0, 10);
+        x.noSuchElement("grant", 0, 0, 0, 0, 1, 7);
+        x.noSuchElement("grant", 0, 8, 8, 257, 257, 8);
+        x.does("grant", 1, 0, 0, 0, 1, 7);
+    }
+
+    /** "IllegalArgumentException if from or size is not 0 .. 256, or rights not 0 .. 7." */
+    private static void wrongGrants() {
+        Run x = new Run().does("region", 0, 0, 256).does("make", 1, 0).does("grant", 1, 0, 0, 3, 4, 5);
+        x.branch().does("grant", 1, 0, 0, 0, 256, 7).entryIs(1, 0, 0, 256, 7);
+        x.branch().does("grant", 1, 0, 0, 256, 0, 0).entryIs(1, 0, NONE, 0, 0);
+        x.branch().does("grant", 1, 0, 0, 256, 256, 7).entryIs(1, 0, NONE, 0, 7);
+        x.branch().does("grant", 1, 0, 0, 0, 0, 7).entryIs(1, 0, NONE, 0, 7);
+        for (int wrong : new int[] {-1, 257, LEAST, MOST}) {
+            x.illegalArgument("grant", 1, 0, 0, wrong, 1, 7);
+            x.illegalArgument("grant", 1, 0, 0, 0, wrong, 7);
+        }
+        for (int wrong : new int[] {-1, 8, LEAST, MOST}) {
+            x.illegalArgument("grant", 1, 0, 0, 0, 1, wrong);
+        }
+    }
+
+    /** "of the words that that one reaches, those from the from-th on (0 the first)" */
+    private static void fromIsCounted() {
+        Run x = new Run().does("region", 0, 100, 10).does("make", 1, 0);
+        x.branch().does("grant", 1, 0, 0, 0, 3, 7).entryIs(1, 0, 100, 3, 7);
+        x.branch().does("grant", 1, 0, 0, 1, 3, 7).entryIs(1, 0, 101, 3, 7);
+        x.branch().does("grant", 1, 0, 0, 9, 3, 7).entryIs(1, 0, 109, 1, 7);
+        x.branch().does("grant", 1, 0, 0, 10, 3, 7).entryIs(1, 0, NONE, 0, 7);
+        x.branch().does("grant", 1, 0, 0, 11, 3, 7).entryIs(1, 0, NONE, 0, 7);
+        x.branch().does("grant", 1, 0, 0, 256, 3, 7).entryIs(1, 0, NONE, 0, 7);
+    }
+
+    /** "as many as the size says, or as there are" */
+    private static void sizeOrAsManyAsThereAre() {
+        Run x = new Run().does("region", 0, 100, 10).does("make", 1, 0);
+        x.branch().does("grant", 1, 0, 0, 0, 0, 7).entryIs(1, 0, NONE, 0, 7);
+        x.branch().does("grant", 1, 0, 0, 0, 1, 7).entryIs(1, 0, 100, 1, 7);
+        x.branch().does("grant", 1, 0, 0, 0, 9, 7).entryIs(1, 0, 100, 9, 7);
+        x.branch().does("grant", 1, 0, 0, 0, 10, 7).entryIs(1, 0, 100, 10, 7);
+        x.branch().does("grant", 1, 0, 0, 0, 11, 7).entryIs(1, 0, 100, 10, 7);
+        x.branch().does("grant", 1, 0, 0, 0, 256, 7).entryIs(1, 0, 100, 10, 7);
+    }
+
+    private static void fromAndSizeTogether() {
+        Run x = new Run().does("region", 0, 246, 10).does("make", 1, 0);
+        x.branch().does("grant", 1, 0, 0, 4, 5, 7).entryIs(1, 0, 250, 5, 7);
+        x.branch().does("grant", 1, 0, 0, 4, 6, 7).entryIs(1, 0, 250, 6, 7);
+        x.branch().does("grant", 1, 0, 0, 4, 7, 7).entryIs(1, 0, 250, 6, 7);
+        x.branch().does("grant", 1, 0, 0, 9, 256, 7).entryIs(1, 0, 255, 1, 7);
+        x.branch().does("grant", 1, 0, 0, 10, 256, 7).entryIs(1, 0, NONE, 0, 7);
+    }
+
+    /** Each counts within what the one that it names reaches, not within what that one's size says. */
+    private static void fewerWordsThroughAChain() {
+        Run x = family().does("region", 0, 100, 30).does("grant", 1, 1, 0, 10, 50, 7);
+        x.does("grant", 2, 2, 1, 5, 50, 7).does("grant", 3, 3, 2, 4, 8, 7);
+        x.entryIs(1, 1, 110, 20, 7);
+        x.entryIs(2, 2, 115, 15, 7);
+        x.entryIs(3, 3, 119, 8, 7);
+        Run less = x.branch().does("region", 0, 0, 26);
+        less.entryIs(3, 3, 19, 7, 7);
+        Run one = x.branch().does("region", 0, 0, 20);
+        one.entryIs(2, 2, 15, 5, 7);
+        one.entryIs(3, 3, 19, 1, 7);
+        Run none = x.branch().does("region", 0, 0, 19);
+        none.entryIs(2, 2, 15, 4, 7);
+        none.entryIs(3, 3, NONE, 0, 7);
+        Run cut = x.branch().does("grant", 2, 2, 1, 5, 6, 7);
+        cut.entryIs(3, 3, 119, 2, 7);
+    }
+
+    /** "the rights are those that both have" */
+    private static void rightsThatBothHave() {
+        Run x = family().does("region", 0, 0, 9);
+        for (int one = 0; one <= 7; one++) {
+            for (int other = 0; other <= 7; other++) {
+                Run y = x.branch().does("grant", 1, 0, 0, 0, 9, one).does("grant", 2, 0, 0, 0, 9, other);
+                y.entryIs(1, 0, 0, 9, one);
+                y.entryIs(2, 0, 0, 9, one & other);
+                y.does("grant", 3, 0, 0, 0, 9, 5).entryIs(3, 0, 0, 9, one & other & 5);
+            }
+        }
+    }
+
+    /** "An empty entry ... reaches no words, and has no rights." */
+    private static void emptyEntries() {
+        Run x = family().does("region", 0, 0, 9).does("grant", 1, 0, 0, 0, 9, 7);
+        for (int entry = 1; entry < 8; entry++) {
+            x.entryIsEmpty(0, entry);
+            x.entryIsEmpty(1, entry);
+        }
+        x.entryIsEmpty(2, 0);
+        x.does("region", 0, 9, 0);
+        x.entryIsEmpty(0, 0);
+    }
+
+    /** "and one that names an empty one" */
+    private static void entriesThatNameEmptyOnes() {
+        Run x = family().does("grant", 1, 0, 5, 0, 10, 7).does("grant", 2, 0, 0, 0, 10, 7);
+        x.does("grant", 3, 0, 0, 0, 10, 7).does("grant", 3, 1, 1, 0, 10, 7);
+        x.entryIsEmpty(1, 0);
+        x.entryIsEmpty(2, 0);
+        x.entryIsEmpty(3, 0);
+        x.entryIsEmpty(3, 1);
+        x.does("region", 5, 30, 3);
+        x.entryIs(1, 0, 30, 3, 7);
+        x.entryIs(2, 0, 30, 3, 7);
+        x.entryIs(3, 0, 30, 3, 7);
+        x.entryIsEmpty(3, 1);
+        x.does("region", 5, 30, 0);
+        x.entryIsEmpty(1, 0);
+        x.entryIsEmpty(2, 0);
+        x.entryIsEmpty(3, 0);
+    }
+
+    /** Only a region of size 0 is said to be empty: an entry that names another keeps the rights that both have. */
+    private static void entriesWithoutWordsAreNotEmpty() {
+        Run x = family().does("region", 0, 100, 10);
+        x.does("grant", 1, 0, 0, 0, 0, 6).does("grant", 1, 1, 0, 10, 5, 3);
+        x.does("grant", 2, 0, 0, 0, 5, 5).does("grant", 2, 1, 1, 0, 5, 7);
+        x.entryIs(1, 0, NONE, 0, 6);
+        x.entryIs(1, 1, NONE, 0, 3);
+        x.entryIs(2, 0, NONE, 0, 4);
+        x.entryIs(2, 1, NONE, 0, 3);
+    }
+
+    private static void aChangeIsSeenByAllThatHangOnIt() {
+        Run x = family().does("region", 0, 100, 100).does("grant", 1, 1, 0, 10, 50, 7);
+        x.does("grant", 2, 2, 1, 10, 30, 6).does("grant", 3, 3, 2, 10, 100, 3);
+        x.entryIs(3, 3, 130, 20, 2);
+        x.does("grant", 1, 1, 0, 20, 25, 7);
+        x.entryIs(3, 3, 140, 5, 2);
+        x.does("region", 0, 0, 42);
+        x.entryIs(3, 3, 40, 2, 2);
+        x.does("grant", 2, 2, 1, 0, 256, 1);
+        x.entryIs(3, 3, 30, 12, 1);
+        x.does("grant", 2, 2, 0, 10, 30, 6);
+        x.entryIsEmpty(3, 3);
+    }
+
+    /** Of entry: "IllegalArgumentException for another what." */
+    private static void wrongWhats() {
+        Run x = new Run().does("region", 0, 10, 20);
+        x.entryIs(0, 0, 10, 20, 7);
+        for (int what : new int[] {-1, 3, LEAST, MOST}) {
+            x.illegalArgument("entry", 0, 0, what);
+            x.illegalArgument("entry", 0, 1, what);
+        }
+    }
+
+    private static Run family() {
+        return new Run().does("make", 1, 0).does("make", 2, 1).does("make", 3, 2);
+    }
+
+    private static void hasEmptyLists(Run x, int process) {
+        for (int entry = 0; entry < 8; entry++) {
+            x.entryIsEmpty(process, entry);
         }
         for (int slot = 0; slot < 14; slot++) {
-            Check.same("kind of slot " + slot, x.slot(0, slot, 0), 0);
+            x.slotIsEmpty(process, slot);
         }
-        for (int word = 0; word < 256; word++) {
-            Check.same("word " + word, x.look(word), 0);
-            Check.yes("word " + word + " is not reached", !x.reaches(0, word));
-        }
-    }
-
-    private static void regions() {
-        GrantMachine x = new GrantMachine();
-        x.region(0, 10, 20);
-        entryIs(x, 0, 0, 10, 20, 7);
-        x.region(7, 0, 256);
-        entryIs(x, 0, 7, 0, 256, 7);
-        x.region(1, 255, 1);
-        entryIs(x, 0, 1, 255, 1, 7);
-        x.region(0, 40, 2);
-        entryIs(x, 0, 0, 40, 2, 7);
-        x.region(0, 40, 0);
-        entryIs(x, 0, 0, NONE, 0, 0);
-        x.region(7, 256, 0);
-        entryIs(x, 0, 7, NONE, 0, 0);
-        entryIs(x, 0, 1, 255, 1, 7);
-    }
-
-    private static void wrongRegions() {
-        GrantMachine x = new GrantMachine();
-        x.region(3, 5, 6);
-        Class<IndexOutOfBoundsException> noEntry = IndexOutOfBoundsException.class;
-        Class<IllegalArgumentException> wrong = IllegalArgumentException.class;
-        Check.refuses(x, "region(-1, 0, 1)", noEntry, () -> x.region(-1, 0, 1));
-        Check.refuses(x, "region(8, 0, 1)", noEntry, () -> x.region(8, 0, 1));
-        Check.refuses(x, "region(8, -1, 1)", noEntry, () -> x.region(8, -1, 1));
-        Check.refuses(x, "region(3, -1, 1)", wrong, () -> x.region(3, -1, 1));
-        Check.refuses(x, "region(3, 1, -1)", wrong, () -> x.region(3, 1, -1));
-        Check.refuses(x, "region(3, 1, 256)", wrong, () -> x.region(3, 1, 256));
-        Check.refuses(x, "region(3, 256, 1)", wrong, () -> x.region(3, 256, 1));
-        Check.refuses(x, "region(3, 257, 0)", wrong, () -> x.region(3, 257, 0));
-        int most = Integer.MAX_VALUE;
-        int least = Integer.MIN_VALUE;
-        Check.refuses(x, "region(3, most, most)", wrong, () -> x.region(3, most, most));
-        Check.refuses(x, "region(3, most, 1)", wrong, () -> x.region(3, most, 1));
-        Check.refuses(x, "region(3, 1, most)", wrong, () -> x.region(3, 1, most));
-        Check.refuses(x, "region(3, least, least)", wrong, () -> x.region(3, least, least));
-    }
-
-    private static void making() {
-        GrantMachine x = new GrantMachine();
-        x.make(3, 0);
-        Check.same("parent of 3", x.about(3, 1), 0);
-        Check.same("steps of 3", x.about(3, 0), 0);
-        x.make(1, 0);
-        x.make(2, 1);
-        Check.same("parent of 2", x.about(2, 1), 1);
-        x.make(3, 2);
-        Check.same("parent of 3 made anew", x.about(3, 1), 2);
-        Check.same("parent of 1", x.about(1, 1), 0);
-    }
-
-    private static void makingAnew() {
-        GrantMachine x = familyOfThree();
-        x.steps(1, 50);
-        x.region(0, 0, 9);
-        for (int entry = 0; entry < 8; entry++) {
-            x.grant(1, entry, 0, 0, 9, 7);
-        }
-        x.load(1, 0, 4, 0, 9, 7);
-        x.seal(1, 0, 13);
-        x.enter(1, 13);
-        x.seal(1, 0, 13);
-        x.make(1, 0);
-        Check.same("steps of 1 made anew", x.about(1, 0), 0);
-        Check.same("put by of 1 made anew", x.about(1, 2), 0);
-        Check.same("slot 13 of 1 made anew", x.slot(1, 13, 0), 0);
-        Check.same("slot 0 of 1 made anew", x.slot(1, 0, 0), 0);
-        for (int entry = 0; entry < 8; entry++) {
-            entryIs(x, 1, entry, NONE, 0, 0);
-        }
-        Check.yes("1 made anew reaches nothing", !x.reaches(1, 0));
-        x.steps(1, 1);
-        Check.refuses(x, "back(1)", IllegalStateException.class, () -> x.back(1));
-        Check.refuses(x, "about(2, 0), the child's", NoSuchElementException.class, () -> x.about(2, 0));
-        Check.refuses(x, "about(3, 0), the grandchild's", NoSuchElementException.class, () -> x.about(3, 0));
-
-        GrantMachine y = new GrantMachine();
-        y.make(1, 0);
-        y.make(2, 0);
-        y.make(3, 1);
-        y.make(2, 1);
-        Check.same("3 hangs on 1, not on 2", y.about(3, 1), 1);
-        y.make(2, 0);
-        y.make(1, 0);
-        Check.same("2 hangs on 0, not on 1", y.about(2, 1), 0);
-        Check.refuses(y, "about(3, 1)", NoSuchElementException.class, () -> y.about(3, 1));
-        y.make(3, 2);
-        Check.same("3 is made again", y.about(3, 1), 2);
-    }
-
-    private static void wrongMaking() {
-        GrantMachine x = new GrantMachine();
-        x.make(1, 0);
-        x.make(3, 1);
-        Class<NoSuchElementException> none = NoSuchElementException.class;
-        Class<IllegalArgumentException> wrong = IllegalArgumentException.class;
-        Check.refuses(x, "make(0, 0)", none, () -> x.make(0, 0));
-        Check.refuses(x, "make(4, 0)", none, () -> x.make(4, 0));
-        Check.refuses(x, "make(-1, 0)", none, () -> x.make(-1, 0));
-        Check.refuses(x, "make(3, 2), 2 not made", none, () -> x.make(3, 2));
-        Check.refuses(x, "make(2, 2), 2 not made", none, () -> x.make(2, 2));
-        Check.refuses(x, "make(2, -1)", none, () -> x.make(2, -1));
-        Check.refuses(x, "make(2, 4)", none, () -> x.make(2, 4));
-        Check.refuses(x, "make(1, 1)", wrong, () -> x.make(1, 1));
-        Check.refuses(x, "make(1, 3)", wrong, () -> x.make(1, 3));
-        Check.refuses(x, "make(2, 3), 2 not made", wrong, () -> x.make(2, 3));
-    }
-
-    private static void grants() {
-        GrantMachine x = new GrantMachine();
-        x.region(2, 100, 50);
-        x.make(1, 0);
-        x.grant(1, 7, 2, 10, 20, 5);
-        entryIs(x, 1, 7, 110, 20, 5);
-        x.grant(1, 7, 2, 40, 20, 7);
-        entryIs(x, 1, 7, 140, 10, 7);
-        x.grant(1, 7, 2, 49, 256, 1);
-        entryIs(x, 1, 7, 149, 1, 1);
-        x.grant(1, 7, 2, 50, 1, 2);
-        entryIs(x, 1, 7, NONE, 0, 2);
-        x.grant(1, 7, 2, 256, 256, 4);
-        entryIs(x, 1, 7, NONE, 0, 4);
-        x.grant(1, 7, 2, 0, 0, 7);
-        entryIs(x, 1, 7, NONE, 0, 7);
-        x.grant(1, 7, 2, 0, 256, 0);
-        entryIs(x, 1, 7, 100, 50, 0);
-    }
-
-    private static void chains() {
-        GrantMachine x = familyOfThree();
-        x.region(0, 100, 100);
-        x.grant(1, 1, 0, 10, 50, 7);
-        x.grant(2, 2, 1, 10, 30, 6);
-        x.grant(3, 3, 2, 10, 100, 3);
-        entryIs(x, 3, 3, 130, 20, 2);
-        x.grant(1, 1, 0, 20, 25, 7);
-        entryIs(x, 3, 3, 140, 5, 2);
-        x.region(0, 0, 42);
-        entryIs(x, 3, 3, 40, 2, 2);
-        x.region(0, 0, 40);
-        entryIs(x, 3, 3, NONE, 0, 2);
-        x.region(0, 200, 56);
-        entryIs(x, 3, 3, 240, 5, 2);
-        x.grant(2, 2, 0, 10, 30, 6);
-        entryIs(x, 3, 3, NONE, 0, 0);
-    }
-
-    private static void emptyEntriesHaveNoRights() {
-        GrantMachine x = familyOfThree();
-        x.grant(1, 0, 5, 0, 10, 7);
-        x.grant(2, 0, 0, 0, 10, 7);
-        entryIs(x, 1, 0, NONE, 0, 0);
-        entryIs(x, 2, 0, NONE, 0, 0);
-        x.region(5, 30, 3);
-        entryIs(x, 1, 0, 30, 3, 7);
-        entryIs(x, 2, 0, 30, 3, 7);
-    }
-
-    private static void wrongGrants() {
-        GrantMachine x = new GrantMachine();
-        x.make(1, 0);
-        Class<NoSuchElementException> none = NoSuchElementException.class;
-        Class<IndexOutOfBoundsException> noEntry = IndexOutOfBoundsException.class;
-        Class<IllegalArgumentException> wrong = IllegalArgumentException.class;
-        Check.refuses(x, "grant of 0", none, () -> x.grant(0, 0, 0, 0, 1, 7));
-        Check.refuses(x, "grant of 2, not made", none, () -> x.grant(2, 0, 0, 0, 1, 7));
-        Check.refuses(x, "grant of 4", none, () -> x.grant(4, 0, 0, 0, 1, 7));
-        Check.refuses(x, "grant of -1", none, () -> x.grant(-1, 0, 0, 0, 1, 7));
-        Check.refuses(x, "grant of 0, all wrong", none, () -> x.grant(0, 8, 8, -1, -1, -1));
-        Check.refuses(x, "entry 8", noEntry, () -> x.grant(1, 8, 0, 0, 1, 7));
-        Check.refuses(x, "entry -1", noEntry, () -> x.grant(1, -1, 0, 0, 1, 7));
-        Check.refuses(x, "of 8", noEntry, () -> x.grant(1, 0, 8, 0, 1, 7));
-        Check.refuses(x, "of -1", noEntry, () -> x.grant(1, 0, -1, 0, 1, 7));
-        Check.refuses(x, "of 8, rights 8", noEntry, () -> x.grant(1, 0, 8, 0, 1, 8));
-        Check.refuses(x, "from -1", wrong, () -> x.grant(1, 0, 0, -1, 1, 7));
-        Check.refuses(x, "from 257", wrong, () -> x.grant(1, 0, 0, 257, 1, 7));
-        Check.refuses(x, "size -1", wrong, () -> x.grant(1, 0, 0, 0, -1, 7));
-        Check.refuses(x, "size 257", wrong, () -> x.grant(1, 0, 0, 0, 257, 7));
-        Check.refuses(x, "rights -1", wrong, () -> x.grant(1, 0, 0, 0, 1, -1));
-        Check.refuses(x, "rights 8", wrong, () -> x.grant(1, 0, 0, 0, 1, 8));
-    }
-
-    private static void wrongEntries() {
-        GrantMachine x = new GrantMachine();
-        Class<IndexOutOfBoundsException> noEntry = IndexOutOfBoundsException.class;
-        Class<IllegalArgumentException> wrong = IllegalArgumentException.class;
-        Check.refuses(x, "entry(1, 9, 9)", NoSuchElementException.class, () -> x.entry(1, 9, 9));
-        Check.refuses(x, "entry(0, 8, 3)", noEntry, () -> x.entry(0, 8, 3));
-        Check.refuses(x, "entry(0, -1, 0)", noEntry, () -> x.entry(0, -1, 0));
-        Check.refuses(x, "entry(0, 0, 3)", wrong, () -> x.entry(0, 0, 3));
-        Check.refuses(x, "entry(0, 0, -1)", wrong, () -> x.entry(0, 0, -1));
-    }
-
-    private static GrantMachine familyOfThree() {
-        GrantMachine x = new GrantMachine();
-        x.make(1, 0);
-        x.make(2, 1);
-        x.make(3, 2);
-        return x;
-    }
-
-    private static void entryIs(GrantMachine x, int process, int entry, int first, int count, int rights) {
-        String name = "entry " + entry + " of " + process;
-        Check.same("first of " + name, x.entry(process, entry, 0), first);
-        Check.same("count of " + name, x.entry(process, entry, 1), count);
-        Check.same("rights of " + name, x.entry(process, entry, 2), rights);
     }
 }

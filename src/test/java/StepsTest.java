@@ -1,167 +1,189 @@
-import java.util.NoSuchElementException;
+import java.util.List;
 
 /** Promises 5 and 17, and the term STEPS: what is given, what is told, and what each doing costs. */
 public final class StepsTest {
+    private static final int LEAST = Integer.MIN_VALUE;
+    private static final int MOST = Integer.MAX_VALUE;
+
+    /** One of each that "cost one each", all possible one after the other; and a refused one of each. */
+    private static final List<Call> DOINGS = List.of(
+            new Call("read", 1, 0, 0), new Call("write", 1, 0, 0, 7), new Call("refine", 1, 0, 1, 0, 1, 7),
+            new Call("move", 1, 0, 2), new Call("drop", 1, 3), new Call("enter", 1, 5), new Call("back", 1));
+    private static final List<Call> NOT_THE_STATE = List.of(
+            new Call("read", 1, 5, 0), new Call("write", 1, 5, 0, 7), new Call("refine", 1, 5, 1, 0, 1, 7),
+            new Call("move", 1, 4, 2), new Call("move", 1, 6, 10), new Call("enter", 1, 0), new Call("back", 1));
+    private static final List<Call> NOT_THE_ARGUMENT = List.of(
+            new Call("read", 1, 0, 10), new Call("write", 1, 0, 10, 7), new Call("refine", 1, 0, 1, 0, 11, 7));
+    private static final List<Call> NOT_THE_SLOT = List.of(
+            new Call("read", 1, 14, 0), new Call("write", 1, 14, 0, 7), new Call("refine", 1, 0, 14, 0, 1, 7),
+            new Call("move", 1, 0, 14), new Call("drop", 1, 14), new Call("enter", 1, 14));
+
     public static void main(String[] args) {
-        giving();
-        wrongGiving();
+        stepsAreAdded();
+        wrongSteps();
+        asManyAsARunCanGive();
         theMost();
         everyDoingCostsOne();
+        theLastStep();
         refusedDoingsCostNothing();
-        withoutStepsNothingIsDone();
-        givingAndAskingCostNothing();
-        wrongAsking();
+        refusedForWantOfStepsAheadOfAllElse();
+        whatElseNeedsNoSteps();
+        eachProcessHasItsOwn();
+        about();
+        wrongWhats();
         Check.end();
     }
 
-    private static void giving() {
-        GrantMachine x = new GrantMachine();
-        x.make(1, 0);
-        x.steps(0, 1000);
-        x.steps(0, 0);
-        x.steps(0, 1);
-        Check.same("steps of 0", x.about(0, 0), 1001);
-        Check.same("steps of 1", x.about(1, 0), 0);
-        x.steps(1, 3);
-        Check.same("steps of 0, as before", x.about(0, 0), 1001);
-        Check.same("steps of 1, given", x.about(1, 0), 3);
+    /** "A process gets so many steps more." */
+    private static void stepsAreAdded() {
+        Run x = new Run().does("make", 1, 0);
+        x.does("steps", 0, 1000).answers(1000, "about", 0, 0);
+        x.does("steps", 0, 0).answers(1000, "about", 0, 0);
+        x.does("steps", 0, 1).answers(1001, "about", 0, 0);
+        x.does("steps", 0, 1000).answers(2001, "about", 0, 0);
+        x.answers(0, "about", 1, 0);
+        x.does("steps", 1, 3).answers(3, "about", 1, 0);
+        x.answers(2001, "about", 0, 0);
     }
 
-    private static void wrongGiving() {
-        GrantMachine x = new GrantMachine();
-        Class<IllegalArgumentException> wrong = IllegalArgumentException.class;
-        Check.refuses(x, "steps(1, -1)", NoSuchElementException.class, () -> x.steps(1, -1));
-        Check.refuses(x, "steps(4, 1)", NoSuchElementException.class, () -> x.steps(4, 1));
-        Check.refuses(x, "steps(-1, 1)", NoSuchElementException.class, () -> x.steps(-1, 1));
-        Check.refuses(x, "steps(0, -1)", wrong, () -> x.steps(0, -1));
-        Check.refuses(x, "steps(0, 1001)", wrong, () -> x.steps(0, 1001));
-        Check.refuses(x, "steps(0, most)", wrong, () -> x.steps(0, Integer.MAX_VALUE));
-        Check.refuses(x, "steps(0, least)", wrong, () -> x.steps(0, Integer.MIN_VALUE));
+    /** "IllegalArgumentException if they are not 0 .. 1000" */
+    private static void wrongSteps() {
+        Run x = new Run().does("steps", 0, 5);
+        for (int steps : new int[] {-1, -5, 1001, LEAST, MOST}) {
+            x.illegalArgument("steps", 0, steps);
+        }
+        x.noSuchElement("steps", 1, -1);
     }
 
-    /** The edge of a million lies behind the 512th call, where nothing is promised; the program holds to it all the same. */
+    /** The most that calls can give while something is promised: no limit may lie below it. */
+    private static void asManyAsARunCanGive() {
+        Run x = new Run();
+        for (int n = 1; n < Run.MOST_CALLS; n++) {
+            x.does("steps", 0, 1000);
+        }
+        x.answers(511000, "about", 0, 0);
+    }
+
+    /**
+     * "or it would have more than 1000000": that lies behind the 512th call, where nothing is promised, so that Run
+     * cannot play it; the program holds to it all the same.
+     */
     private static void theMost() {
         GrantMachine x = new GrantMachine();
+        Call two = new Call("steps", 0, 2);
+        Call one = new Call("steps", 0, 1);
+        String refused = Call.THROWS + "IllegalArgumentException";
         for (int i = 0; i < 999; i++) {
             x.steps(0, 1000);
         }
         x.steps(0, 999);
-        Check.refuses(x, "steps(0, 2) at 999999", IllegalArgumentException.class, () -> x.steps(0, 2));
-        x.steps(0, 1);
-        Check.same("steps of 0", x.about(0, 0), 1000000);
-        Check.refuses(x, "steps(0, 1) at 1000000", IllegalArgumentException.class, () -> x.steps(0, 1));
-        x.steps(0, 0);
+        Check.yes("two more than 999999 are refused", two.on(x).equals(refused));
+        Check.same("steps after that", x.about(0, 0), 999999);
+        Check.yes("one more than 999999 is taken", one.on(x).equals(Call.DONE));
+        Check.yes("one more than 1000000 is refused", one.on(x).equals(refused));
+        Check.same("steps after that", x.about(0, 0), 1000000);
+        Check.yes("none more than 1000000 is taken", new Call("steps", 0, 0).on(x).equals(Call.DONE));
     }
 
+    /** "read, write, refine, move, drop, enter and back of a process cost one each" */
     private static void everyDoingCostsOne() {
-        GrantMachine x = withDoorAndMemory();
-        x.steps(0, 7);
-        x.read(0, 0, 0);
-        Check.same("steps after read", x.about(0, 0), 6);
-        x.write(0, 0, 0, 1);
-        Check.same("steps after write", x.about(0, 0), 5);
-        x.refine(0, 0, 1, 0, 1, 7);
-        Check.same("steps after refine", x.about(0, 0), 4);
-        x.move(0, 0, 2);
-        Check.same("steps after move", x.about(0, 0), 3);
-        x.drop(0, 4);
-        Check.same("steps after drop of an empty slot", x.about(0, 0), 2);
-        x.enter(0, 5);
-        Check.same("steps after enter", x.about(0, 0), 1);
-        x.back(0);
-        Check.same("steps after back", x.about(0, 0), 0);
+        Run x = furnished().does("steps", 1, 7);
+        int left = 7;
+        for (Call doing : DOINGS) {
+            x.does(doing.name(), doing.arguments());
+            left--;
+            x.answers(left, "about", 1, 0);
+        }
     }
 
+    /** "a process does something only if it has steps left": with the last one it does, without it doesn't. */
+    private static void theLastStep() {
+        Run x = furnished();
+        for (Call doing : DOINGS) {
+            x.refuses("UnsupportedOperationException", doing);
+            x.does("steps", 1, 1);
+            x.does(doing.name(), doing.arguments());
+            x.answers(0, "about", 1, 0);
+            x.refuses("UnsupportedOperationException", doing);
+        }
+    }
+
+    /** "(if they aren't refused)" */
     private static void refusedDoingsCostNothing() {
-        GrantMachine x = withDoorAndMemory();
-        x.steps(0, 1);
-        Class<IllegalStateException> state = IllegalStateException.class;
-        Class<IllegalArgumentException> wrong = IllegalArgumentException.class;
-        Check.refuses(x, "read of a door", state, () -> x.read(0, 5, 0));
-        Check.refuses(x, "read beyond", wrong, () -> x.read(0, 0, 10));
-        Check.refuses(x, "write of a door", state, () -> x.write(0, 5, 0, 1));
-        Check.refuses(x, "write beyond", wrong, () -> x.write(0, 0, 10, 1));
-        Check.refuses(x, "refine of a door", state, () -> x.refine(0, 5, 1, 0, 1, 0));
-        Check.refuses(x, "refine beyond", wrong, () -> x.refine(0, 0, 1, 0, 11, 0));
-        Check.refuses(x, "move of an empty slot", state, () -> x.move(0, 4, 1));
-        Check.refuses(x, "enter by memory", state, () -> x.enter(0, 0));
-        Check.refuses(x, "back with nothing put by", state, () -> x.back(0));
-        Check.refuses(x, "drop of no slot", IndexOutOfBoundsException.class, () -> x.drop(0, 14));
-        Check.same("steps of 0", x.about(0, 0), 1);
+        Run x = furnished().does("steps", 1, 1);
+        refusesAll(x, "IllegalStateException", NOT_THE_STATE);
+        refusesAll(x, "IllegalArgumentException", NOT_THE_ARGUMENT);
+        refusesAll(x, "IndexOutOfBoundsException", NOT_THE_SLOT);
+        x.answers(1, "about", 1, 0);
+        x.does("read", 1, 0, 0);
     }
 
-    /** No steps goes behind a wrong process or slot, and ahead of all else. */
-    private static void withoutStepsNothingIsDone() {
-        GrantMachine x = withDoorAndMemory();
-        Class<UnsupportedOperationException> spent = UnsupportedOperationException.class;
-        Class<IndexOutOfBoundsException> noSlot = IndexOutOfBoundsException.class;
-        Class<NoSuchElementException> none = NoSuchElementException.class;
-        Check.refuses(x, "read", spent, () -> x.read(0, 0, 0));
-        Check.refuses(x, "read of an empty slot", spent, () -> x.read(0, 4, -1));
-        Check.refuses(x, "read of slot 14", noSlot, () -> x.read(0, 14, 0));
-        Check.refuses(x, "read of slot -1", noSlot, () -> x.read(0, -1, 0));
-        Check.refuses(x, "read of process 1", none, () -> x.read(1, 14, 0));
-        Check.refuses(x, "write", spent, () -> x.write(0, 0, 0, 1));
-        Check.refuses(x, "write of an empty slot", spent, () -> x.write(0, 4, -1, 1));
-        Check.refuses(x, "write of slot 14", noSlot, () -> x.write(0, 14, 0, 1));
-        Check.refuses(x, "write of slot -1", noSlot, () -> x.write(0, -1, 0, 1));
-        Check.refuses(x, "write of process 1", none, () -> x.write(1, 14, 0, 1));
-        Check.refuses(x, "refine", spent, () -> x.refine(0, 0, 1, 0, 1, 1));
-        Check.refuses(x, "refine, all wrong", spent, () -> x.refine(0, 4, 1, -1, -1, -1));
-        Check.refuses(x, "refine of slot 14", noSlot, () -> x.refine(0, 14, 1, 0, 1, 1));
-        Check.refuses(x, "refine to slot 14", noSlot, () -> x.refine(0, 0, 14, 0, 1, 1));
-        Check.refuses(x, "refine of slot -1", noSlot, () -> x.refine(0, -1, 1, 0, 1, 1));
-        Check.refuses(x, "refine to slot -1", noSlot, () -> x.refine(0, 0, -1, 0, 1, 1));
-        Check.refuses(x, "refine of process 4", none, () -> x.refine(4, 14, 14, 0, 1, 1));
-        Check.refuses(x, "move", spent, () -> x.move(0, 0, 1));
-        Check.refuses(x, "move of an empty slot", spent, () -> x.move(0, 4, 1));
-        Check.refuses(x, "move of slot 14", noSlot, () -> x.move(0, 14, 1));
-        Check.refuses(x, "move to slot 14", noSlot, () -> x.move(0, 0, 14));
-        Check.refuses(x, "move of slot -1", noSlot, () -> x.move(0, -1, 1));
-        Check.refuses(x, "move to slot -1", noSlot, () -> x.move(0, 0, -1));
-        Check.refuses(x, "move of process -1", none, () -> x.move(-1, 14, 14));
-        Check.refuses(x, "drop", spent, () -> x.drop(0, 0));
-        Check.refuses(x, "drop of slot 14", noSlot, () -> x.drop(0, 14));
-        Check.refuses(x, "drop of slot -1", noSlot, () -> x.drop(0, -1));
-        Check.refuses(x, "drop of process 2", none, () -> x.drop(2, 14));
-        Check.refuses(x, "enter", spent, () -> x.enter(0, 5));
-        Check.refuses(x, "enter by memory", spent, () -> x.enter(0, 0));
-        Check.refuses(x, "enter by slot 14", noSlot, () -> x.enter(0, 14));
-        Check.refuses(x, "enter by slot -1", noSlot, () -> x.enter(0, -1));
-        Check.refuses(x, "enter of process 3", none, () -> x.enter(3, 14));
-        Check.refuses(x, "back", spent, () -> x.back(0));
-        Check.refuses(x, "back of process 1", none, () -> x.back(1));
+    /** "then UnsupportedOperationException if it has no steps left": behind a wrong slot, ahead of all else. */
+    private static void refusedForWantOfStepsAheadOfAllElse() {
+        Run x = furnished();
+        refusesAll(x, "UnsupportedOperationException", NOT_THE_STATE);
+        refusesAll(x, "UnsupportedOperationException", NOT_THE_ARGUMENT);
+        refusesAll(x, "IndexOutOfBoundsException", NOT_THE_SLOT);
     }
 
-    private static void givingAndAskingCostNothing() {
-        GrantMachine x = withDoorAndMemory();
-        x.steps(0, 2);
-        x.load(0, 1, 0, 0, 1, 1);
-        x.seal(0, 1, 6);
-        x.region(1, 0, 1);
-        x.make(1, 0);
-        x.grant(1, 0, 0, 0, 1, 1);
-        x.slot(0, 0, 0);
-        x.entry(0, 0, 0);
-        x.reaches(0, 0);
-        x.look(0);
-        Check.same("steps of 0", x.about(0, 0), 2);
+    private static void refusesAll(Run x, String exception, List<Call> doings) {
+        for (Call doing : doings) {
+            x.refuses(exception, doing);
+        }
     }
 
-    private static void wrongAsking() {
-        GrantMachine x = new GrantMachine();
-        Check.refuses(x, "about(1, 3)", NoSuchElementException.class, () -> x.about(1, 3));
-        Check.refuses(x, "about(4, 0)", NoSuchElementException.class, () -> x.about(4, 0));
-        Check.refuses(x, "about(-1, 0)", NoSuchElementException.class, () -> x.about(-1, 0));
-        Check.refuses(x, "about(0, 3)", IllegalArgumentException.class, () -> x.about(0, 3));
-        Check.refuses(x, "about(0, -1)", IllegalArgumentException.class, () -> x.about(0, -1));
+    /** Only what a process does costs a step, or needs one. */
+    private static void whatElseNeedsNoSteps() {
+        for (int steps = 0; steps <= 1; steps++) {
+            Run x = furnished().does("steps", 1, steps);
+            x.does("load", 1, 1, 0, 0, 1, 1).does("seal", 1, 1, 6).does("region", 1, 0, 1).does("make", 2, 1);
+            x.does("grant", 1, 0, 0, 0, 1, 1).does("grant", 2, 0, 0, 0, 1, 1);
+            x.answers(1, "slot", 1, 0, 0);
+            x.answers(1, "entry", 1, 0, 1);
+            x.answers(true, "reaches", 1, 20);
+            x.answers(0, "look", 20);
+            x.answers(steps, "about", 1, 0);
+        }
     }
 
-    private static GrantMachine withDoorAndMemory() {
-        GrantMachine x = new GrantMachine();
-        x.region(0, 0, 10);
-        x.load(0, 0, 0, 0, 10, 7);
-        x.seal(0, 0, 5);
-        return x;
+    private static void eachProcessHasItsOwn() {
+        Run x = furnished().does("make", 2, 1).does("steps", 0, 10).does("steps", 1, 20).does("steps", 2, 30);
+        x.does("read", 1, 0, 0).does("drop", 2, 0).does("drop", 2, 1);
+        x.answers(10, "about", 0, 0);
+        x.answers(19, "about", 1, 0);
+        x.answers(28, "about", 2, 0);
+        Run none = furnished().does("steps", 0, 10);
+        none.unsupported("read", 1, 0, 0);
+    }
+
+    /** "0 its steps left, 1 its parent (NONE for process 0), 2 how often lists are put by." */
+    private static void about() {
+        Run x = furnished().does("make", 3, 1).does("steps", 1, 9).does("enter", 1, 5).does("enter", 1, 9);
+        x.answers(0, "about", 0, 0);
+        x.answers(GrantMachine.NONE, "about", 0, 1);
+        x.answers(0, "about", 0, 2);
+        x.answers(7, "about", 1, 0);
+        x.answers(0, "about", 1, 1);
+        x.answers(2, "about", 1, 2);
+        x.answers(0, "about", 3, 0);
+        x.answers(1, "about", 3, 1);
+        x.answers(0, "about", 3, 2);
+    }
+
+    /** Of about: "IllegalArgumentException for another what." */
+    private static void wrongWhats() {
+        Run x = furnished();
+        for (int what : new int[] {-1, 3, LEAST, MOST}) {
+            x.illegalArgument("about", 0, what);
+            x.illegalArgument("about", 1, what);
+            x.noSuchElement("about", 2, what);
+        }
+    }
+
+    /** Process 1, without steps: slot 0 ten words with all rights, 6 without the right to pass on, 5 and 13 a door. */
+    private static Run furnished() {
+        Run x = new Run().does("region", 0, 20, 10).does("make", 1, 0).does("grant", 1, 0, 0, 0, 10, 7);
+        x.does("load", 1, 0, 0, 0, 10, 7).does("load", 1, 6, 0, 0, 10, 3);
+        return x.does("seal", 1, 0, 13).does("seal", 1, 0, 5);
     }
 }
