@@ -1,4 +1,4 @@
-/** The example of README.md, line for line, with what its comments tell. */
+/** The calls of README.md's example, copied by hand and in its order, with what its comments tell. */
 public final class ExampleTest {
     public static void main(String[] args) {
         GrantMachine machine = new GrantMachine();
